@@ -13,8 +13,8 @@ public final class ArmsBook {
     private final Proof proof = new Proof();
     private final Quarters quarters = new Quarters();
     private final Tape tape = new Tape();
+    private final Parser parser = new Parser();
     private final Office office = new Office();
-    private final Reader reader = new Reader();
     private final Copies copies = new Copies();
     private int faultPlace = NONE;
 
@@ -52,24 +52,24 @@ public final class ArmsBook {
         tape.put(c);
         tape.put(d);
         tape.put(e);
-        return tape.length();
+        return tape.length;
     }
 
     public int text(int n, int year) throws IllegalArgumentException {
-        if (n < 0 || n > tape.length() || !isYear(year)) {
+        if (n < 0 || n > tape.length || !isYear(year)) {
             throw new IllegalArgumentException("no such bytes or year");
         }
-        byte[] bytes = tape.takeFirst(n);
+        tape.length = 0;
         faultPlace = NONE;
         if (office.isFull()) {
             return TOO_MANY_TEXTS;
         }
-        reader.read(bytes);
-        if (reader.faultKind() != Reader.NO_FAULT) {
-            faultPlace = reader.faultStart();
-            return -1 - reader.faultKind();
+        parser.parse(tape.bytes, n);
+        if (parser.fault != Parser.NO_FAULT) {
+            faultPlace = parser.place;
+            return -1 - parser.fault;
         }
-        return office.add(bytes, year);
+        return office.add(parser.code(), year);
     }
 
     public int fault() {
@@ -105,13 +105,13 @@ public final class ArmsBook {
         proof.find(people, grants, person, year);
         switch (what) {
             case 0:
-                return proof.arms();
+                return proof.arms;
             case 1:
-                return proof.root();
+                return proof.root;
             case 2:
-                return proof.steps();
+                return proof.steps;
             case 3:
-                return proof.grade();
+                return proof.grade;
             case 4:
                 return asInt(people.isLiving(person, year));
             case 5:
@@ -128,7 +128,7 @@ public final class ArmsBook {
     public int mark(int person, int year, int i) throws NoSuchElementException {
         requirePerson(person);
         proof.find(people, grants, person, year);
-        if (i < 0 || i >= proof.steps()) {
+        if (i < 0 || i >= proof.steps) {
             throw new NoSuchElementException("no such mark");
         }
         return proof.markAt(i);
@@ -155,27 +155,27 @@ public final class ArmsBook {
     public int claim(int person, int arms, int year) throws NoSuchElementException {
         requirePerson(person);
         proof.find(people, grants, person, year);
-        if (proof.arms() == NONE || proof.arms() != arms) {
+        if (proof.arms == NONE || proof.arms != arms) {
             return 1;
         }
         if (!people.isLiving(person, year)) {
             return 2;
         }
         judge(person, year);
-        if (reader.refuses()) {
+        if (office.refuses) {
             return 3;
         }
-        return reader.differs() && !proof.isPlain() ? 4 : 0;
+        return office.differs && !proof.isPlain() ? 4 : 0;
     }
 
     public int fee(int person, int year) throws NoSuchElementException {
         requirePerson(person);
         proof.find(people, grants, person, year);
-        if (proof.arms() == NONE) {
+        if (proof.arms == NONE) {
             return 0;
         }
         judge(person, year);
-        return reader.fees();
+        return office.fees;
     }
 
     public int rivals(int person, int year) throws NoSuchElementException {
@@ -188,7 +188,7 @@ public final class ArmsBook {
         requirePerson(person);
         requirePerson(other);
         long both = people.forebears(person) & people.forebears(other);
-        for (int q = people.size() - 1; q >= 0; q--) {
+        for (int q = people.size - 1; q >= 0; q--) {
             if (People.isIn(both, q)) {
                 return q;
             }
@@ -223,15 +223,15 @@ public final class ArmsBook {
     public int count(int what) throws NoSuchElementException {
         switch (what) {
             case 0:
-                return people.size();
+                return people.size;
             case 1:
-                return grants.size();
+                return grants.size;
             case 2:
-                return office.size();
+                return office.size;
             case 3:
-                return copies.size();
+                return copies.size;
             case 4:
-                return tape.length();
+                return tape.length;
             default:
                 throw new NoSuchElementException("nothing of that number is counted");
         }
@@ -243,32 +243,27 @@ public final class ArmsBook {
         }
     }
 
-    /** Reads the text in force for the one whose proof was found last, in the same year. */
+    /** Has the office judge the one whose proof was found last, in the same year. */
     private void judge(int person, int year) {
-        Text text = office.inForce(year);
-        if (text == null) {
-            reader.forget();
-            return;
-        }
         quarters.fill(people, grants, person, year);
-        reader.setName(Reader.GRADE, proof.grade());
-        reader.setName(Reader.STEPS, proof.steps());
-        reader.setName(Reader.YEAR, year);
-        reader.setName(Reader.BORN, people.bornOf(person));
-        reader.setName(Reader.FEMALE, asInt(people.isFemale(person)));
-        reader.setName(Reader.MARKS, proof.marksAboveOne());
-        reader.setName(Reader.RIVALS, countRivals(year));
-        reader.setName(Reader.QUARTERS, quarters.sizeOf(person));
-        reader.read(text.bytes);
+        office.setName(Scanner.GRADE, proof.grade);
+        office.setName(Scanner.STEPS, proof.steps);
+        office.setName(Scanner.YEAR, year);
+        office.setName(Scanner.BORN, people.bornOf(person));
+        office.setName(Scanner.FEMALE, asInt(people.isFemale(person)));
+        office.setName(Scanner.MARKS, proof.marksAboveOne);
+        office.setName(Scanner.RIVALS, countRivals(year));
+        office.setName(Scanner.QUARTERS, quarters.sizeOf(person));
+        office.judge(year);
     }
 
     private int countRivals(int year) {
-        if (proof.arms() == NONE) {
+        if (proof.arms == NONE) {
             return 0;
         }
         int rivals = 0;
-        for (int q = 0; q < people.size(); q++) {
-            if (q != proof.root() && grants.ownArms(q, year) == proof.arms()) {
+        for (int q = 0; q < people.size; q++) {
+            if (q != proof.root && grants.ownArms(q, year) == proof.arms) {
                 rivals++;
             }
         }
@@ -284,12 +279,11 @@ public final class ArmsBook {
     }
 
     /**
-     * The people and their parents. A parent's number is always the lesser one, so a walk along the
-     * numbers meets parents ahead of children; and 60 people fit the bits of one long as a set.
+     * The people and their parents. A parent's number is always the lesser one, so a walk down the
+     * numbers meets children ahead of parents; and 60 people fit the bits of one long as a set.
      */
     private static final class People {
-        static final int MOST = 60;
-
+        private static final int MOST = 60;
         private static final int LONGEST_LIFE = 100;
         private static final int BEST_GRADE = 9;
         private static final int YOUNGEST_PARENT = 14;
@@ -297,7 +291,8 @@ public final class ArmsBook {
 
         private final boolean[] female = new boolean[MOST];
         private final int[] born = new int[MOST];
-        private final int[] died = new int[MOST];
+        private final int[] toldDeath = new int[MOST];
+        private final int[] lastYear = new int[MOST];
         private final int[] father = new int[MOST];
         private final int[] mother = new int[MOST];
         private final int[] fatherGrade = new int[MOST];
@@ -308,38 +303,32 @@ public final class ArmsBook {
             return ((set >>> person) & 1L) != 0L;
         }
 
-        int size() {
-            return size;
-        }
-
         boolean has(int person) {
             return person >= 0 && person < size;
         }
 
-        int add(boolean isFemale, int bornIn, int diedIn) {
-            if (size >= MOST || !isYear(bornIn) || !canDie(bornIn, diedIn)) {
+        int add(boolean isFemale, int birth, int death) {
+            if (size >= MOST || !isYear(birth) || !canDie(birth, death)) {
                 return NONE;
             }
             int number = size;
             female[number] = isFemale;
-            born[number] = bornIn;
-            died[number] = diedIn;
+            born[number] = birth;
+            toldDeath[number] = death;
+            lastYear[number] = death == NONE ? birth + LONGEST_LIFE : death;
             father[number] = NONE;
             mother[number] = NONE;
             size = number + 1;
             return number;
         }
 
-        private static boolean canDie(int bornIn, int diedIn) {
-            return diedIn == NONE
-                    || isYear(diedIn) && diedIn >= bornIn && diedIn - bornIn <= LONGEST_LIFE;
+        private static boolean canDie(int birth, int death) {
+            return death == NONE
+                    || isYear(death) && death >= birth && death - birth <= LONGEST_LIFE;
         }
 
         boolean tellFather(int child, int parent, int grade) {
-            if (!has(child) || !has(parent) || father[child] != NONE) {
-                return false;
-            }
-            if (!isGrade(grade) || !canBeFather(child, parent)) {
+            if (!isGrade(grade) || !canBeFather(child, parent) || father[child] != NONE) {
                 return false;
             }
             father[child] = parent;
@@ -348,10 +337,7 @@ public final class ArmsBook {
         }
 
         boolean tellMother(int child, int parent, int grade) {
-            if (!has(child) || !has(parent) || mother[child] != NONE) {
-                return false;
-            }
-            if (!isGrade(grade) || !canBeMother(child, parent)) {
+            if (!isGrade(grade) || !canBeMother(child, parent) || mother[child] != NONE) {
                 return false;
             }
             mother[child] = parent;
@@ -364,21 +350,18 @@ public final class ArmsBook {
         }
 
         private boolean canBeFather(int child, int parent) {
-            int birth = bornOf(child);
-            return parent < child
-                    && !isFemale(parent)
-                    && birth - bornOf(parent) >= YOUNGEST_PARENT
-                    && lastYearOf(parent) >= birth - 1;
+            return has(child) && has(parent) && parent < child
+                    && !female[parent]
+                    && born[child] - born[parent] >= YOUNGEST_PARENT
+                    && lastYear[parent] >= born[child] - 1;
         }
 
         private boolean canBeMother(int child, int parent) {
-            int birth = bornOf(child);
-            int age = birth - bornOf(parent);
-            return parent < child
-                    && isFemale(parent)
-                    && age >= YOUNGEST_PARENT
-                    && age <= OLDEST_MOTHER
-                    && isLiving(parent, birth);
+            return has(child) && has(parent) && parent < child
+                    && female[parent]
+                    && born[child] - born[parent] >= YOUNGEST_PARENT
+                    && born[child] - born[parent] <= OLDEST_MOTHER
+                    && lastYear[parent] >= born[child];
         }
 
         boolean isFemale(int person) {
@@ -390,7 +373,7 @@ public final class ArmsBook {
         }
 
         int toldDeathOf(int person) {
-            return has(person) ? died[person] : NONE;
+            return has(person) ? toldDeath[person] : NONE;
         }
 
         int fatherOf(int person) {
@@ -409,23 +392,14 @@ public final class ArmsBook {
             return has(person) ? motherGrade[person] : 0;
         }
 
-        private int lastYearOf(int person) {
-            int told = toldDeathOf(person);
-            return told == NONE ? bornOf(person) + LONGEST_LIFE : told;
-        }
-
         boolean isLiving(int person, int year) {
-            return bornOf(person) <= year && lastYearOf(person) >= year;
-        }
-
-        private boolean isChild(int person, int parent) {
-            return fatherOf(person) == parent || motherOf(person) == parent;
+            return has(person) && born[person] <= year && lastYear[person] >= year;
         }
 
         int childrenOf(int person) {
             int children = 0;
             for (int q = 0; q < size; q++) {
-                if (isChild(q, person)) {
+                if (father[q] == person || mother[q] == person) {
                     children++;
                 }
             }
@@ -436,12 +410,12 @@ public final class ArmsBook {
         long livingLines(int year) {
             long lines = 0L;
             for (int q = size - 1; q >= 0; q--) {
-                if (!isFemale(q) && isLiving(q, year)) {
+                if (!female[q] && isLiving(q, year)) {
                     lines |= 1L << q;
                 }
-                // Children come first here, so what stands of q by now is final.
-                if (isIn(lines, q) && fatherOf(q) != NONE) {
-                    lines |= 1L << fatherOf(q);
+                // All children of q came ahead of it, so what stands of its line by now is final.
+                if (isIn(lines, q) && father[q] != NONE) {
+                    lines |= 1L << father[q];
                 }
             }
             return lines;
@@ -454,9 +428,10 @@ public final class ArmsBook {
 
         /** Where one stands among its father's sons of living lines, whether or not it is one of them. */
         int placeOf(int person, long lines) {
+            int parent = fatherOf(person);
             int place = 1;
             for (int q = 0; q < size; q++) {
-                if (isIn(lines, q) && fatherOf(q) == fatherOf(person) && isElder(q, person)) {
+                if (father[q] == parent && isIn(lines, q) && isElder(q, person)) {
                     place++;
                 }
             }
@@ -470,59 +445,61 @@ public final class ArmsBook {
                 if (isLiving(at, year)) {
                     return at;
                 }
-                at = eldestSon(at, lines);
+                at = heirOf(at, lines);
             }
             return NONE;
         }
 
-        private int eldestSon(int parent, long lines) {
-            int eldest = NONE;
+        /** The first son of a father or mother whose line lives. */
+        private int heirOf(int parent, long lines) {
+            int heir = NONE;
             for (int q = 0; q < size; q++) {
-                if (isIn(lines, q) && isChild(q, parent) && (eldest == NONE || isElder(q, eldest))) {
-                    eldest = q;
+                boolean isSon = (father[q] == parent || mother[q] == parent) && isIn(lines, q);
+                if (isSon && (heir == NONE || isElder(q, heir))) {
+                    heir = q;
                 }
             }
-            return eldest;
+            return heir;
         }
 
         /** The lines are those that live in the same year. */
         boolean isHeiress(int person, int year, long lines) {
             int parent = fatherOf(person);
-            return isFemale(person)
-                    && parent != NONE
-                    && lastYearOf(parent) <= year
-                    && eldestSon(parent, lines) == NONE;
+            if (!isFemale(person) || !has(parent) || lastYear[parent] > year) {
+                return false;
+            }
+            for (int q = 0; q < size; q++) {
+                if (father[q] == parent && isIn(lines, q)) {
+                    return false;
+                }
+            }
+            return true;
         }
 
-        /** Whether a mother's quarters go to her children; the lines are those of the year. */
+        /** Whether a mother's quarters go to her children in a year; the lines are those of that year. */
         boolean bringsQuarters(int person, int year, long lines) {
             if (isHeiress(person, year, lines)) {
                 return true;
             }
-            int death = lastYearOf(person);
-            return death <= year && isHeiress(person, death, livingLines(death));
+            if (!has(person) || lastYear[person] > year) {
+                return false;
+            }
+            int death = lastYear[person];
+            return isHeiress(person, death, livingLines(death));
         }
 
         /** The set of all from whom one comes down, and oneself. */
         long forebears(int person) {
             long found = has(person) ? 1L << person : 0L;
             for (int q = size - 1; q >= 0; q--) {
-                if (isIn(found, q)) {
-                    found |= parentsOf(q);
+                if (isIn(found, q) && father[q] != NONE) {
+                    found |= 1L << father[q];
+                }
+                if (isIn(found, q) && mother[q] != NONE) {
+                    found |= 1L << mother[q];
                 }
             }
             return found;
-        }
-
-        private long parentsOf(int person) {
-            long parents = 0L;
-            if (fatherOf(person) != NONE) {
-                parents |= 1L << fatherOf(person);
-            }
-            if (motherOf(person) != NONE) {
-                parents |= 1L << motherOf(person);
-            }
-            return parents;
         }
     }
 
@@ -534,10 +511,6 @@ public final class ArmsBook {
         private final int[] arms = new int[MOST];
         private final int[] from = new int[MOST];
         private int size = 0;
-
-        int size() {
-            return size;
-        }
 
         int add(int person, int coat, int year) {
             if (size >= MOST || coat < 1 || coat > LAST_ARMS || !isYear(year)) {
@@ -567,8 +540,6 @@ public final class ArmsBook {
 
     /** How one comes to its arms in a year; made once and found anew for each call. */
     private static final class Proof {
-        private static final int BEST_GRADE = 9;
-
         private final int[] marks = new int[People.MOST];
         private int arms = NONE;
         private int root = NONE;
@@ -589,7 +560,7 @@ public final class ArmsBook {
         }
 
         private void climb(People people, Grants grants, int person, int year) {
-            int least = BEST_GRADE;
+            int least = People.BEST_GRADE;
             int at = person;
             for (int up = 0; up < People.MOST && at != NONE; up++) {
                 int own = grants.ownArms(at, year);
@@ -616,28 +587,8 @@ public final class ArmsBook {
             }
         }
 
-        int arms() {
-            return arms;
-        }
-
-        int root() {
-            return root;
-        }
-
-        int steps() {
-            return steps;
-        }
-
-        int grade() {
-            return grade;
-        }
-
         int markAt(int i) {
             return i >= 0 && i < People.MOST ? marks[i] : NONE;
-        }
-
-        int marksAboveOne() {
-            return marksAboveOne;
         }
 
         boolean isPlain() {
@@ -681,21 +632,16 @@ public final class ArmsBook {
 
         private void addArms(int person, int arms) {
             int size = sizeOf(person);
-            if (!isPlace(person, size) || arms == NONE || holds(person, arms)) {
+            if (arms == NONE || !isPlace(person, size)) {
                 return;
+            }
+            for (int i = 0; i < size; i++) {
+                if (armsAt(person, i) == arms) {
+                    return;
+                }
             }
             rows[person * MOST + size] = arms;
             sizes[person] = size + 1;
-        }
-
-        private boolean holds(int person, int arms) {
-            int size = sizeOf(person);
-            for (int i = 0; i < size; i++) {
-                if (armsAt(person, i) == arms) {
-                    return true;
-                }
-            }
-            return false;
         }
 
         private static boolean isPlace(int person, int i) {
@@ -718,10 +664,6 @@ public final class ArmsBook {
         private final byte[] bytes = new byte[MOST];
         private int length = 0;
 
-        int length() {
-            return length;
-        }
-
         boolean hasRoom() {
             return length + FED_AT_ONCE <= MOST;
         }
@@ -732,51 +674,399 @@ public final class ArmsBook {
                 length++;
             }
         }
+    }
 
-        /** The first n bytes; the tape is empty then. */
-        byte[] takeFirst(int n) {
-            int taken = Math.max(0, Math.min(n, length));
-            length = 0;
-            return Arrays.copyOf(bytes, taken);
+    /**
+     * The tokens of a text, each one int: a sign is its own byte, a number its value behind
+     * FIRST_NUMBER. Behind the last one stands END.
+     */
+    private static final class Scanner {
+        private static final int END = 0;
+        private static final int NO_TOKEN = 1;
+        private static final int LONG_NUMBER = 2;
+        private static final int OTHER_WORD = 3;
+        private static final int REFUSE = 4;
+        private static final int DIFFER = 5;
+        private static final int FEE = 6;
+        private static final int AND = 7;
+        private static final int OR = 8;
+        private static final int NOT = 9;
+        private static final int GRADE = 100;
+        private static final int STEPS = 101;
+        private static final int YEAR = 102;
+        private static final int BORN = 103;
+        private static final int FEMALE = 104;
+        private static final int MARKS = 105;
+        private static final int RIVALS = 106;
+        private static final int QUARTERS = 107;
+        private static final int FIRST_NUMBER = 1000;
+        private static final int MOST_DIGITS = 4;
+        private static final int MOST = Tape.MOST + 1;
+
+        private final int[] tokens = new int[MOST];
+        private final int[] starts = new int[MOST];
+        private int size = 0;
+
+        static boolean isName(int token) {
+            return token >= GRADE && token <= QUARTERS;
+        }
+
+        static boolean isNumber(int token) {
+            return token >= FIRST_NUMBER;
+        }
+
+        static boolean isOtherThanName(int token) {
+            return token >= OTHER_WORD && token <= NOT;
+        }
+
+        void scan(byte[] bytes, int length) {
+            size = 0;
+            int end = Math.min(length, bytes.length);
+            int at = 0;
+            for (int i = 0; i < Tape.MOST && at < end; i++) {
+                at = scanOne(bytes, at, end);
+            }
+            put(END, end);
+        }
+
+        private void put(int token, int start) {
+            if (size < MOST) {
+                tokens[size] = token;
+                starts[size] = start;
+                size++;
+            }
+        }
+
+        /** Takes the blank or the token that begins here, and answers where the next one begins. */
+        private int scanOne(byte[] bytes, int from, int end) {
+            int first = bytes[from];
+            if (first == ' ' || first == '\n') {
+                return from + 1;
+            }
+            if (isLetter(first)) {
+                int behind = behindLetters(bytes, from, end);
+                put(wordToken(bytes, from, behind), from);
+                return behind;
+            }
+            if (isDigit(first)) {
+                int behind = behindDigits(bytes, from, end);
+                put(numberToken(bytes, from, behind), from);
+                return behind;
+            }
+            put(isSign(first) ? first : NO_TOKEN, from);
+            return from + 1;
+        }
+
+        private static boolean isLetter(int sign) {
+            return sign >= 'a' && sign <= 'z';
+        }
+
+        private static boolean isDigit(int sign) {
+            return sign >= '0' && sign <= '9';
+        }
+
+        private static boolean isSign(int sign) {
+            return sign == '(' || sign == ')' || sign == ';' || sign == '+'
+                    || sign == '-' || sign == '<' || sign == '=';
+        }
+
+        private static int behindLetters(byte[] bytes, int from, int end) {
+            int i = from;
+            while (i < end && isLetter(bytes[i])) {
+                i++;
+            }
+            return i;
+        }
+
+        private static int behindDigits(byte[] bytes, int from, int end) {
+            int i = from;
+            while (i < end && isDigit(bytes[i])) {
+                i++;
+            }
+            return i;
+        }
+
+        private static int numberToken(byte[] bytes, int from, int behind) {
+            if (behind - from > MOST_DIGITS) {
+                return LONG_NUMBER;
+            }
+            int value = 0;
+            for (int i = from; i < behind; i++) {
+                value = value * 10 + (bytes[i] - '0');
+            }
+            return FIRST_NUMBER + value;
+        }
+
+        private static int wordToken(byte[] bytes, int from, int behind) {
+            if (spells(bytes, from, behind, "refuse")) {
+                return REFUSE;
+            }
+            if (spells(bytes, from, behind, "differ")) {
+                return DIFFER;
+            }
+            if (spells(bytes, from, behind, "fee")) {
+                return FEE;
+            }
+            if (spells(bytes, from, behind, "and")) {
+                return AND;
+            }
+            if (spells(bytes, from, behind, "or")) {
+                return OR;
+            }
+            return spells(bytes, from, behind, "not") ? NOT : nameToken(bytes, from, behind);
+        }
+
+        private static int nameToken(byte[] bytes, int from, int behind) {
+            if (spells(bytes, from, behind, "grade")) {
+                return GRADE;
+            }
+            if (spells(bytes, from, behind, "steps")) {
+                return STEPS;
+            }
+            if (spells(bytes, from, behind, "year")) {
+                return YEAR;
+            }
+            if (spells(bytes, from, behind, "born")) {
+                return BORN;
+            }
+            if (spells(bytes, from, behind, "female")) {
+                return FEMALE;
+            }
+            if (spells(bytes, from, behind, "marks")) {
+                return MARKS;
+            }
+            if (spells(bytes, from, behind, "rivals")) {
+                return RIVALS;
+            }
+            return spells(bytes, from, behind, "quarters") ? QUARTERS : OTHER_WORD;
+        }
+
+        private static boolean spells(byte[] bytes, int from, int behind, String word) {
+            if (behind - from != word.length()) {
+                return false;
+            }
+            for (int i = 0; i < word.length(); i++) {
+                if (bytes[from + i] != word.charAt(i)) {
+                    return false;
+                }
+            }
+            return true;
+        }
+    }
+
+    /**
+     * Turns a text into code for the office: its tokens without brackets, each operator behind its
+     * operands and each rule's verb behind its expression. The first fault stops it: no token fits
+     * from there on, so all reading ends.
+     */
+    private static final class Parser {
+        private static final int NO_FAULT = 0;
+        private static final int OUT_OF_PLACE = 1;
+        private static final int TOO_MUCH = 2;
+        private static final int NO_NAME = 3;
+        private static final int STOPPED = -1;
+        private static final int MOST_RULES = 12;
+        private static final int MOST_AROUND = 5;
+
+        private final Scanner scanner = new Scanner();
+        private final int[] code = new int[Tape.MOST];
+        private int codeSize = 0;
+        private int at = 0;
+        private int token = STOPPED;
+        private int fault = NO_FAULT;
+        private int place = NONE;
+
+        void parse(byte[] bytes, int length) {
+            scanner.scan(bytes, length);
+            codeSize = 0;
+            fault = NO_FAULT;
+            place = NONE;
+            at = 0;
+            token = scanner.tokens[at];
+            for (int rule = 0; rule <= MOST_RULES && token != Scanner.END && fault == NO_FAULT; rule++) {
+                readRule(rule);
+            }
+        }
+
+        int[] code() {
+            return Arrays.copyOf(code, codeSize);
+        }
+
+        private void advance() {
+            at = Math.min(at + 1, Tape.MOST);
+            token = scanner.tokens[at];
+        }
+
+        private void blame(int kind) {
+            if (fault == NO_FAULT) {
+                fault = kind;
+                place = scanner.starts[at];
+                token = STOPPED;
+            }
+        }
+
+        private void emit(int operation) {
+            if (codeSize < Tape.MOST) {
+                code[codeSize] = operation;
+                codeSize++;
+            }
+        }
+
+        private void readRule(int rule) {
+            int verb = token;
+            if (verb != Scanner.REFUSE && verb != Scanner.DIFFER && verb != Scanner.FEE) {
+                blame(OUT_OF_PLACE);
+                return;
+            }
+            if (rule >= MOST_RULES) {
+                blame(TOO_MUCH);
+                return;
+            }
+            advance();
+            readExpression(0);
+            if (token != ';') {
+                blame(OUT_OF_PLACE);
+                return;
+            }
+            advance();
+            emit(verb);
+        }
+
+        /** Around: how many expressions this one stands within. */
+        private void readExpression(int around) {
+            if (around > MOST_AROUND && canBeginExpression()) {
+                blame(TOO_MUCH);
+                return;
+            }
+            readTest(around);
+            for (int i = 0; i < Tape.MOST && (token == Scanner.AND || token == Scanner.OR); i++) {
+                int operator = token;
+                advance();
+                readTest(around);
+                emit(operator);
+            }
+        }
+
+        private boolean canBeginExpression() {
+            return token == '(' || token == Scanner.NOT || Scanner.isNumber(token) || Scanner.isName(token);
+        }
+
+        private void readTest(int around) {
+            boolean negated = token == Scanner.NOT;
+            if (negated) {
+                advance();
+            }
+            readSum(around);
+            if (token == '<' || token == '=') {
+                int operator = token;
+                advance();
+                readSum(around);
+                emit(operator);
+            }
+            if (negated) {
+                emit(Scanner.NOT);
+            }
+        }
+
+        private void readSum(int around) {
+            readPart(around);
+            for (int i = 0; i < Tape.MOST && (token == '+' || token == '-'); i++) {
+                int operator = token;
+                advance();
+                readPart(around);
+                emit(operator);
+            }
+        }
+
+        private void readPart(int around) {
+            if (Scanner.isNumber(token) || Scanner.isName(token)) {
+                emit(token);
+                advance();
+            } else if (token == '(') {
+                advance();
+                readExpression(around + 1);
+                if (token == ')') {
+                    advance();
+                } else {
+                    blame(OUT_OF_PLACE);
+                }
+            } else if (token == Scanner.LONG_NUMBER) {
+                blame(TOO_MUCH);
+            } else {
+                blame(Scanner.isOtherThanName(token) ? NO_NAME : OUT_OF_PLACE);
+            }
         }
     }
 
     private static final class Text {
-        private final byte[] bytes;
+        private final int[] code;
         private final int from;
 
-        Text(byte[] bytes, int from) {
-            this.bytes = bytes;
+        Text(int[] code, int from) {
+            this.code = code;
             this.from = from;
         }
     }
 
+    /** The texts, and how one is judged by that in force. */
     private static final class Office {
         private static final int MOST = 6;
+        private static final int NAMES = 8;
+        // Six expressions one in another leave at most three operands open each.
+        private static final int MOST_OPERANDS = 24;
 
         private final Text[] texts = new Text[MOST];
+        private final int[] names = new int[NAMES];
+        private final int[] operands = new int[MOST_OPERANDS];
         private int size = 0;
-
-        int size() {
-            return size;
-        }
+        private int open = 0;
+        private boolean refuses = false;
+        private boolean differs = false;
+        private int fees = 0;
 
         boolean isFull() {
             return size >= MOST;
         }
 
-        int add(byte[] bytes, int year) {
+        int add(int[] code, int year) {
             if (isFull()) {
                 return NONE;
             }
             int number = size;
-            texts[number] = new Text(bytes, year);
+            texts[number] = new Text(code, year);
             size = number + 1;
             return number;
         }
 
+        void setName(int token, int value) {
+            int i = token - Scanner.GRADE;
+            if (i >= 0 && i < NAMES) {
+                names[i] = value;
+            }
+        }
+
+        private int nameValue(int token) {
+            int i = token - Scanner.GRADE;
+            return i >= 0 && i < NAMES ? names[i] : 0;
+        }
+
+        /** By the names' values that were set; without a text nothing is asked for. */
+        void judge(int year) {
+            refuses = false;
+            differs = false;
+            fees = 0;
+            open = 0;
+            Text text = inForce(year);
+            if (text == null) {
+                return;
+            }
+            for (int i = 0; i < text.code.length; i++) {
+                work(text.code[i]);
+            }
+        }
+
         /** The text in force in a year, or null. */
-        Text inForce(int year) {
+        private Text inForce(int year) {
             Text found = null;
             int latest = FIRST_YEAR;
             for (int t = 0; t < size; t++) {
@@ -788,397 +1078,59 @@ public final class ArmsBook {
             }
             return found;
         }
-    }
 
-    /** The tokens of a text, one at a time. A sign's token is its own byte. */
-    private static final class Scanner {
-        static final int STOPPED = -1;
-        static final int END = 0;
-        static final int NO_TOKEN = 1;
-        static final int NUMBER = 2;
-        static final int LONG_NUMBER = 3;
-        static final int NAME = 4;
-        static final int REFUSE = 5;
-        static final int DIFFER = 6;
-        static final int FEE = 7;
-        static final int AND = 8;
-        static final int OR = 9;
-        static final int NOT = 10;
-        static final int OTHER_WORD = 11;
-
-        private static final int MOST_DIGITS = 4;
-
-        private byte[] bytes = new byte[0];
-        private int next = 0;
-        private int start = 0;
-        private int token = END;
-        private int value = 0;
-
-        void begin(byte[] text) {
-            bytes = text;
-            next = 0;
-            advance();
-        }
-
-        void stop() {
-            token = STOPPED;
-        }
-
-        int token() {
-            return token;
-        }
-
-        /** A NUMBER's value, or a NAME's place among the names. */
-        int value() {
-            return value;
-        }
-
-        /** The token's first byte; at the end the text's length. */
-        int start() {
-            return start;
-        }
-
-        void advance() {
-            next = behindBlanks(next);
-            start = next;
-            int first = byteAt(start);
-            if (start >= bytes.length) {
-                token = END;
-            } else if (isLetter(first)) {
-                next = behindLetters(start);
-                setWord();
-            } else if (isDigit(first)) {
-                next = behindDigits(start);
-                setNumber();
-            } else {
-                next = start + 1;
-                token = isSign(first) ? first : NO_TOKEN;
+        private void push(int value) {
+            if (open < MOST_OPERANDS) {
+                operands[open] = value;
+                open++;
             }
         }
 
-        private int byteAt(int i) {
-            return i >= 0 && i < bytes.length ? bytes[i] : 0;
-        }
-
-        private static boolean isLetter(int sign) {
-            return sign >= 'a' && sign <= 'z';
-        }
-
-        private static boolean isDigit(int sign) {
-            return sign >= '0' && sign <= '9';
-        }
-
-        private static boolean isBlank(int sign) {
-            return sign == ' ' || sign == '\n';
-        }
-
-        private static boolean isSign(int sign) {
-            return sign == '(' || sign == ')' || sign == ';' || sign == '+'
-                    || sign == '-' || sign == '<' || sign == '=';
-        }
-
-        private int behindBlanks(int from) {
-            int i = from;
-            while (i < bytes.length && isBlank(byteAt(i))) {
-                i++;
-            }
-            return i;
-        }
-
-        private int behindLetters(int from) {
-            int i = from;
-            while (i < bytes.length && isLetter(byteAt(i))) {
-                i++;
-            }
-            return i;
-        }
-
-        private int behindDigits(int from) {
-            int i = from;
-            while (i < bytes.length && isDigit(byteAt(i))) {
-                i++;
-            }
-            return i;
-        }
-
-        private void setNumber() {
-            value = 0;
-            if (next - start > MOST_DIGITS) {
-                token = LONG_NUMBER;
-                return;
-            }
-            token = NUMBER;
-            for (int i = start; i < next; i++) {
-                value = value * 10 + (byteAt(i) - '0');
-            }
-        }
-
-        private void setWord() {
-            value = nameNumber();
-            token = value == NONE ? plainWord() : NAME;
-        }
-
-        private int nameNumber() {
-            if (spells("grade")) {
-                return Reader.GRADE;
-            }
-            if (spells("steps")) {
-                return Reader.STEPS;
-            }
-            if (spells("year")) {
-                return Reader.YEAR;
-            }
-            if (spells("born")) {
-                return Reader.BORN;
-            }
-            if (spells("female")) {
-                return Reader.FEMALE;
-            }
-            if (spells("marks")) {
-                return Reader.MARKS;
-            }
-            if (spells("rivals")) {
-                return Reader.RIVALS;
-            }
-            return spells("quarters") ? Reader.QUARTERS : NONE;
-        }
-
-        private int plainWord() {
-            if (spells("refuse")) {
-                return REFUSE;
-            }
-            if (spells("differ")) {
-                return DIFFER;
-            }
-            if (spells("fee")) {
-                return FEE;
-            }
-            if (spells("and")) {
-                return AND;
-            }
-            if (spells("or")) {
-                return OR;
-            }
-            return spells("not") ? NOT : OTHER_WORD;
-        }
-
-        private boolean spells(String word) {
-            if (next - start != word.length()) {
-                return false;
-            }
-            for (int i = 0; i < word.length(); i++) {
-                if (byteAt(start + i) != word.charAt(i)) {
-                    return false;
-                }
-            }
-            return true;
-        }
-    }
-
-    /**
-     * Reads a text and works it out in one go, with the names' values that were set. The first fault
-     * stops the scanner, so that no token fits from there on and all reading ends.
-     */
-    private static final class Reader {
-        static final int NO_FAULT = 0;
-
-        static final int GRADE = 0;
-        static final int STEPS = 1;
-        static final int YEAR = 2;
-        static final int BORN = 3;
-        static final int FEMALE = 4;
-        static final int MARKS = 5;
-        static final int RIVALS = 6;
-        static final int QUARTERS = 7;
-
-        private static final int NAMES = 8;
-        private static final int OUT_OF_PLACE = 1;
-        private static final int TOO_MUCH = 2;
-        private static final int NO_NAME = 3;
-        private static final int MOST_RULES = 12;
-        private static final int MOST_AROUND = 5;
-
-        private final Scanner scanner = new Scanner();
-        private final int[] names = new int[NAMES];
-        private int faultKind = NO_FAULT;
-        private int faultStart = NONE;
-        private boolean refuses = false;
-        private boolean differs = false;
-        private int fees = 0;
-
-        int faultKind() {
-            return faultKind;
-        }
-
-        int faultStart() {
-            return faultStart;
-        }
-
-        boolean refuses() {
-            return refuses;
-        }
-
-        boolean differs() {
-            return differs;
-        }
-
-        int fees() {
-            return fees;
-        }
-
-        void setName(int name, int value) {
-            if (name >= 0 && name < NAMES) {
-                names[name] = value;
-            }
-        }
-
-        private int nameValue(int name) {
-            return name >= 0 && name < NAMES ? names[name] : 0;
-        }
-
-        /** What a year without a text has. */
-        void forget() {
-            faultKind = NO_FAULT;
-            faultStart = NONE;
-            refuses = false;
-            differs = false;
-            fees = 0;
-        }
-
-        void read(byte[] text) {
-            forget();
-            scanner.begin(text);
-            for (int rule = 0; rule <= MOST_RULES && scanner.token() != Scanner.END
-                    && faultKind == NO_FAULT; rule++) {
-                readRule(rule);
-            }
-        }
-
-        private void blame(int kind) {
-            if (faultKind == NO_FAULT) {
-                faultKind = kind;
-                faultStart = scanner.start();
-                scanner.stop();
-            }
-        }
-
-        private void readRule(int rule) {
-            int verb = scanner.token();
-            if (verb != Scanner.REFUSE && verb != Scanner.DIFFER && verb != Scanner.FEE) {
-                blame(OUT_OF_PLACE);
-                return;
-            }
-            if (rule >= MOST_RULES) {
-                blame(TOO_MUCH);
-                return;
-            }
-            scanner.advance();
-            int value = readExpression(0);
-            if (scanner.token() != ';') {
-                blame(OUT_OF_PLACE);
-                return;
-            }
-            scanner.advance();
-            apply(verb, value);
-        }
-
-        private void apply(int verb, int value) {
-            if (verb == Scanner.FEE) {
-                fees += value;
-            } else if (verb == Scanner.REFUSE) {
-                refuses = refuses || value != 0;
-            } else {
-                differs = differs || value != 0;
-            }
-        }
-
-        private boolean canBeginExpression() {
-            int token = scanner.token();
-            return token == Scanner.NUMBER || token == Scanner.NAME || token == Scanner.NOT || token == '(';
-        }
-
-        /** Around: how many expressions this one stands within. */
-        private int readExpression(int around) {
-            if (around > MOST_AROUND && canBeginExpression()) {
-                blame(TOO_MUCH);
+        private int pop() {
+            if (open <= 0) {
                 return 0;
             }
-            int value = readTest(around);
-            for (int i = 0; i < Tape.MOST && isJoint(); i++) {
-                boolean both = scanner.token() == Scanner.AND;
-                scanner.advance();
-                boolean left = value != 0;
-                boolean right = readTest(around) != 0;
-                value = asInt(both ? left && right : left || right);
-            }
-            return value;
+            open--;
+            return operands[open];
         }
 
-        private boolean isJoint() {
-            return scanner.token() == Scanner.AND || scanner.token() == Scanner.OR;
-        }
-
-        private int readTest(int around) {
-            boolean negated = scanner.token() == Scanner.NOT;
-            if (negated) {
-                scanner.advance();
-            }
-            int value = readSum(around);
-            int sign = scanner.token();
-            if (sign == '<' || sign == '=') {
-                scanner.advance();
-                int right = readSum(around);
-                value = asInt(sign == '<' ? value < right : value == right);
-            }
-            return negated ? asInt(value == 0) : value;
-        }
-
-        private int readSum(int around) {
-            int value = readPart(around);
-            for (int i = 0; i < Tape.MOST && (scanner.token() == '+' || scanner.token() == '-'); i++) {
-                boolean plus = scanner.token() == '+';
-                scanner.advance();
-                int right = readPart(around);
-                value = plus ? value + right : value - right;
-            }
-            return value;
-        }
-
-        private int readPart(int around) {
-            int token = scanner.token();
-            int value = scanner.value();
-            if (token == Scanner.NUMBER) {
-                scanner.advance();
-                return value;
-            }
-            if (token == Scanner.NAME) {
-                scanner.advance();
-                return nameValue(value);
-            }
-            if (token == '(') {
-                scanner.advance();
-                return readInner(around + 1);
-            }
-            blame(faultOfPart(token));
-            return 0;
-        }
-
-        private int readInner(int around) {
-            int value = readExpression(around);
-            if (scanner.token() == ')') {
-                scanner.advance();
+        private void work(int operation) {
+            if (Scanner.isNumber(operation)) {
+                push(operation - Scanner.FIRST_NUMBER);
+            } else if (Scanner.isName(operation)) {
+                push(nameValue(operation));
+            } else if (operation == Scanner.NOT) {
+                push(asInt(pop() == 0));
+            } else if (operation == Scanner.REFUSE) {
+                refuses = pop() != 0 || refuses;
+            } else if (operation == Scanner.DIFFER) {
+                differs = pop() != 0 || differs;
+            } else if (operation == Scanner.FEE) {
+                fees += pop();
             } else {
-                blame(OUT_OF_PLACE);
+                int right = pop();
+                int left = pop();
+                push(joined(operation, left, right));
             }
-            return value;
         }
 
-        private static int faultOfPart(int token) {
-            if (token == Scanner.LONG_NUMBER) {
-                return TOO_MUCH;
+        private static int joined(int operator, int left, int right) {
+            switch (operator) {
+                case '+':
+                    return left + right;
+                case '-':
+                    return left - right;
+                case '<':
+                    return asInt(left < right);
+                case '=':
+                    return asInt(left == right);
+                case Scanner.AND:
+                    return asInt(left != 0 && right != 0);
+                case Scanner.OR:
+                    return asInt(left != 0 || right != 0);
+                default:
+                    return 0;
             }
-            boolean isWord = token >= Scanner.REFUSE && token <= Scanner.OTHER_WORD;
-            return isWord ? NO_NAME : OUT_OF_PLACE;
         }
     }
 
@@ -1192,10 +1144,6 @@ public final class ArmsBook {
         private final int[] years = new int[MOST];
         private final int[] rows = new int[MOST];
         private int size = 0;
-
-        int size() {
-            return size;
-        }
 
         boolean has(int number) {
             return number >= 0 && number < size;

@@ -121,6 +121,7 @@ public final class BearingTest {
         Due.is("in the year of death", book.bears(0, 1460, 4), 1);
         Due.is("not behind it", book.bears(0, 1461, 4), 0);
         Due.is("no line ahead of birth", book.bears(0, 1399, 5), 0);
+        Due.is("the line of one who lives himself", book.bears(0, 1405, 5), 1);
         Due.is("the line lives in a son's son", book.bears(0, 1520, 5), 1);
         Due.is("not in a daughter", book.bears(0, 1521, 5), 0);
         Due.is("a female has none", book.bears(3, 1500, 5), 0);

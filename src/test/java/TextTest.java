@@ -161,6 +161,7 @@ public final class TextTest {
 
     private static void noName() {
         faulty("refuse x;", 3, 7);
+        faulty("refuse 1+zaz;", 3, 9);
         faulty("refuse grades;", 3, 7);
         faulty("refuse grad;", 3, 7);
         faulty("refuse (x;", 3, 8);
