@@ -7,6 +7,7 @@ public final class TextTest {
         outOfPlace();
         tooMuch();
         noName();
+        likeWords();
         longText();
         inForce();
         claim();
@@ -175,6 +176,25 @@ public final class TextTest {
         faultless("refuse grade+steps+year+born+female+marks+rivals+quarters;");
     }
 
+    /** A word with one letter put otherwise, too few or too many is another word. */
+    private static void likeWords() {
+        String[] words = {"refuse", "differ", "fee", "grade", "steps", "year", "born", "female", "marks", "rivals",
+            "quarters", "and", "or", "not"};
+        for (String word : words) {
+            for (int i = 0; i < word.length(); i++) {
+                unknown(word.substring(0, i) + "z" + word.substring(i + 1));
+                unknown(word.substring(0, i) + word.substring(i + 1));
+            }
+            unknown(word + "s");
+        }
+    }
+
+    private static void unknown(String word) {
+        faulty(word + " 1;", 1, 0);
+        faulty("fee 1 " + word + " 1;", 1, 6);
+        faulty("fee " + word + ";", 3, 4);
+    }
+
     private static void longText() {
         faultless("fee 1" + times("+1", 197) + ";");
         faultless("fee 1;" + times(" ", 394));
@@ -292,6 +312,13 @@ public final class TextTest {
         worth("(1<2)+(3<4)+(5=5)", 3);
         worth("9999+9999", 19998);
         worth("0012", 12);
+        worth(within(5), 0);
+        worth(within(4), 1);
+    }
+
+    /** Expressions one in another, each with all that can wait for what stands within it. */
+    private static String within(int depth) {
+        return "1 and 5<6-" + (depth == 0 ? "0" : "(" + within(depth - 1) + ")");
     }
 
     private static void names() {
