@@ -71,7 +71,7 @@ public final class ModelTest {
     private void tellPerson() {
         boolean female = below(5) < 2;
         int size = model.count(0);
-        int born = firstYear + Math.min(200, size * (3 + run % 3)) + below(20);
+        int born = firstYear + Math.min(200, size * (2 + run % 4)) + below(20);
         int died = below(5) == 0 ? -1 : born + below(below(4) == 0 ? 103 : 70);
         if (below(20) == 0) {
             died = born - below(3);
@@ -84,33 +84,53 @@ public final class ModelTest {
     private void tellParent() {
         int child = anyPerson();
         int what = below(30) == 0 ? below(5) - 2 : below(2);
-        int parent = anyPerson();
+        int parent = below(10) == 0 ? anyPerson() : likelyParent(child, what);
         int grade = below(20) == 0 ? below(12) - 1 : 1 + below(9);
         same("parent(" + child + ", " + what + ", " + parent + ", " + grade + ")",
                 () -> book.parent(child, what, parent, grade) ? 1 : 0,
                 () -> model.parent(child, what, parent, grade));
     }
 
+    /** One of the right sex and about the right age, if a few draws find one. */
+    private int likelyParent(int child, int what) {
+        int found = anyPerson();
+        for (int i = 0; i < 20 && isPerson(child); i++) {
+            int gap = isPerson(found) ? model.about(child, 0) - model.about(found, 0) : 0;
+            if (found < child && gap >= 13 && gap <= 52 && model.about(found, 6) == what) {
+                return found;
+            }
+            found = anyPerson();
+        }
+        return found;
+    }
+
+    private boolean isPerson(int p) {
+        return p >= 0 && p < model.count(0);
+    }
+
     private void tellGrant() {
-        int to = anyPerson();
+        int to = below(2) == 0 ? anyPerson() : below(Math.max(1, model.count(0) / 4));
         int arms = below(15) == 0 ? below(103) - 1 : 1 + below(run % 2 == 0 ? 8 : 60);
-        int year = anyYear();
+        int year = below(2) == 0 ? anyYear() : firstYear + below(60);
         same("grant(" + to + ", " + arms + ", " + year + ")",
                 () -> book.grant(to, arms, year), () -> model.grant(to, arms, year));
     }
 
-    /** Most runs begin with kin, so that what follows finds some. */
+    /** Most runs begin with kin, grants and texts, so that what follows finds some. */
     private void settle() {
         int size = run % 7 == 0 ? 0 : 5 + below(60);
         for (int i = 0; i < size; i++) {
             tellPerson();
         }
-        for (int i = 0; i < size * 12; i++) {
+        for (int i = 0; i < size * 6; i++) {
             tellParent();
         }
-        int given = below(Math.max(1, size / 2));
+        int given = size == 0 ? 0 : 2 + below(Math.max(1, size / 2));
         for (int i = 0; i < given; i++) {
             tellGrant();
+        }
+        for (int i = size == 0 ? 0 : below(5); i > 0; i--) {
+            readText();
         }
     }
 
@@ -120,7 +140,11 @@ public final class ModelTest {
             case 0: tellPerson(); break;
             case 1: case 2: tellParent(); break;
             case 3: tellGrant(); break;
-            case 4: if (below(6) == 0) readText(); break;
+            case 4:
+                if (below(6) == 0) {
+                    readText();
+                }
+                break;
             case 5: badText(); break;
             case 6: case 7: copies(); break;
             case 8: common(); break;
@@ -131,9 +155,9 @@ public final class ModelTest {
 
     private void askPerson(int kind) {
         int p = anyPerson();
-        int year = anyYear();
+        int year = isPerson(p) && below(3) > 0 ? model.about(p, 0) + below(90) - 5 : anyYear();
         int what = below(30) == 0 ? below(14) - 3 : below(8);
-        int i = below(8) == 0 ? below(15) - 2 : below(4);
+        int i = below(8) == 0 ? below(15) - 2 : below(3);
         int arms = below(5) == 0 ? below(20) - 2 : safeArms(p, year);
         String two = "(" + p + ", " + year + ")";
         switch (kind) {
@@ -168,7 +192,7 @@ public final class ModelTest {
     }
 
     private int safeArms(int p, int year) {
-        return p < 0 || p >= model.count(0) ? 1 : model.bears(p, year, 0);
+        return isPerson(p) ? model.bears(p, year, 0) : 1;
     }
 
     private void quarters(int p, int year, int i) {
@@ -215,10 +239,13 @@ public final class ModelTest {
     private void readText() {
         StringBuilder words = new StringBuilder();
         int rules = below(12) == 0 ? 10 + below(5) : below(5);
+        int room = below(10) == 0 ? 500 : 380;
         for (int i = 0; i < rules; i++) {
+            int length = words.length();
             words.append(WORDS[below(3)]).append(' ');
             expression(words, 0);
             words.append(';');
+            words.setLength(words.length() > room ? length : words.length());
         }
         for (int i = below(3) == 0 ? 1 + below(3) : 0; i > 0; i--) {
             spoil(words);
@@ -247,7 +274,7 @@ public final class ModelTest {
 
     private void expression(StringBuilder words, int depth) {
         test(words, depth);
-        for (int i = below(3); i > 0; i--) {
+        for (int i = Math.max(0, below(5) - 2); i > 0; i--) {
             words.append(below(2) == 0 ? " and " : " or ");
             test(words, depth);
         }
