@@ -6,20 +6,39 @@ final class Due {
         long answer();
     }
 
+    private static int lookedAt = 0;
     private static int wrong = 0;
+    private static String heading = "";
 
     private Due() {
     }
 
+    /** What stands ahead of each wrong answer from now on. */
+    static void head(String words) {
+        heading = words;
+    }
+
     static void is(String call, long got, long want) {
+        lookedAt++;
         if (got != want) {
-            wrong++;
-            System.out.println(call + " answered " + got + ", due is " + want);
+            report(call + " answered " + got + ", due is " + want);
         }
+    }
+
+    static void report(String fault) {
+        wrong++;
+        System.out.println(heading + fault);
     }
 
     static void is(String call, boolean got, boolean want) {
         is(call, got ? 1 : 0, want ? 1 : 0);
+    }
+
+    static void is(String call, String got, String want) {
+        lookedAt++;
+        if (!got.equals(want)) {
+            report(call + " answered '" + got + "', due is '" + want + "'");
+        }
     }
 
     static void noSuchElement(String call, Call made) {
@@ -31,6 +50,7 @@ final class Due {
     }
 
     private static void throwsOne(String call, Call made, Class<? extends RuntimeException> due) {
+        lookedAt++;
         String got;
         try {
             got = "answered " + made.answer();
@@ -40,8 +60,12 @@ final class Due {
             }
             got = "threw " + e;
         }
-        wrong++;
-        System.out.println(call + " " + got + ", due is " + due.getSimpleName());
+        report(call + " " + got + ", due is " + due.getSimpleName());
+    }
+
+    /** How many answers were looked at. */
+    static int lookedAt() {
+        return lookedAt;
     }
 
     static int wrong() {

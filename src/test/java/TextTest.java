@@ -74,60 +74,47 @@ public final class TextTest {
         Due.is("still six", book.count(2), 6);
     }
 
-    private static void faulty(String words, int fault, int place) {
-        ArmsBook book = new ArmsBook();
-        Due.is("'" + words + "'", Written.text(book, words, 1500), -1 - fault);
-        Due.is("fault() of '" + words + "'", book.fault(), place);
-        Due.is("texts behind '" + words + "'", book.count(2), 0);
-    }
-
-    private static void faultless(String words) {
-        ArmsBook book = new ArmsBook();
-        Due.is("'" + words + "'", Written.text(book, words, 1500), 0);
-        Due.is("fault() of '" + words + "'", book.fault(), -1);
-    }
-
     private static void outOfPlace() {
-        faulty("refuse", 1, 6);
-        faulty("refuse  ", 1, 8);
-        faulty("refuse 1", 1, 8);
-        faulty("refuse 1 ", 1, 9);
-        faulty("refuse (1", 1, 9);
-        faulty("refuse 1 +", 1, 10);
-        faulty("refuse 1 and", 1, 12);
-        faulty("refuse not", 1, 10);
-        faulty("1", 1, 0);
-        faulty(" ;", 1, 1);
-        faulty("grade", 1, 0);
-        faulty("refused 1;", 1, 0);
-        faulty("refus e 1;", 1, 0);
-        faulty("Refuse 1;", 1, 0);
-        faulty("refuse ;", 1, 7);
-        faulty("refuse 1;;", 1, 9);
-        faulty("refuse 1);", 1, 8);
-        faulty("refuse ();", 1, 8);
-        faulty("refuse (1;", 1, 9);
-        faulty("refuse 1 2;", 1, 9);
-        faulty("refuse 1 grade;", 1, 9);
-        faulty("refuse 1 bogus;", 1, 9);
-        faulty("refuse 1 12345;", 1, 9);
-        faulty("refuse 1 not 2;", 1, 9);
-        faulty("refuse (1 refuse 1;", 1, 10);
-        faulty("refuse 1<2<3;", 1, 10);
-        faulty("refuse 1=2<3;", 1, 10);
-        faulty("refuse -1;", 1, 7);
-        faulty("refuse 1+-1;", 1, 9);
-        faulty("refuse 1\t;", 1, 8);
-        faulty("refuse 1*2;", 1, 8);
-        faulty("refuse \u00e1;", 1, 7);
-        faulty("refuse 1;\0", 1, 9);
-        faulty("refuse 1A;", 1, 8);
-        faultless("refuse(1);");
-        faultless("refuse1;");
-        faultless("refuse\n1\n;\n");
-        faulty("refuse 1 andnot 2;", 1, 9);
-        faultless("refuse 1and not grade or 2;");
-        faultless("refuse (1<2)<(3=4);");
+        Written.faulty("refuse", 1, 6);
+        Written.faulty("refuse  ", 1, 8);
+        Written.faulty("refuse 1", 1, 8);
+        Written.faulty("refuse 1 ", 1, 9);
+        Written.faulty("refuse (1", 1, 9);
+        Written.faulty("refuse 1 +", 1, 10);
+        Written.faulty("refuse 1 and", 1, 12);
+        Written.faulty("refuse not", 1, 10);
+        Written.faulty("1", 1, 0);
+        Written.faulty(" ;", 1, 1);
+        Written.faulty("grade", 1, 0);
+        Written.faulty("refused 1;", 1, 0);
+        Written.faulty("refus e 1;", 1, 0);
+        Written.faulty("Refuse 1;", 1, 0);
+        Written.faulty("refuse ;", 1, 7);
+        Written.faulty("refuse 1;;", 1, 9);
+        Written.faulty("refuse 1);", 1, 8);
+        Written.faulty("refuse ();", 1, 8);
+        Written.faulty("refuse (1;", 1, 9);
+        Written.faulty("refuse 1 2;", 1, 9);
+        Written.faulty("refuse 1 grade;", 1, 9);
+        Written.faulty("refuse 1 bogus;", 1, 9);
+        Written.faulty("refuse 1 12345;", 1, 9);
+        Written.faulty("refuse 1 not 2;", 1, 9);
+        Written.faulty("refuse (1 refuse 1;", 1, 10);
+        Written.faulty("refuse 1<2<3;", 1, 10);
+        Written.faulty("refuse 1=2<3;", 1, 10);
+        Written.faulty("refuse -1;", 1, 7);
+        Written.faulty("refuse 1+-1;", 1, 9);
+        Written.faulty("refuse 1\t;", 1, 8);
+        Written.faulty("refuse 1*2;", 1, 8);
+        Written.faulty("refuse \u00e1;", 1, 7);
+        Written.faulty("refuse 1;\0", 1, 9);
+        Written.faulty("refuse 1A;", 1, 8);
+        Written.faultless("refuse(1);");
+        Written.faultless("refuse1;");
+        Written.faultless("refuse\n1\n;\n");
+        Written.faulty("refuse 1 andnot 2;", 1, 9);
+        Written.faultless("refuse 1and not grade or 2;");
+        Written.faultless("refuse (1<2)<(3=4);");
     }
 
     private static String times(String words, int n) {
@@ -135,45 +122,45 @@ public final class TextTest {
     }
 
     private static void tooMuch() {
-        faultless("fee 9999;");
-        faultless("fee 0000;");
-        faulty("fee 10000;", 2, 4);
-        faulty("fee 00000;", 2, 4);
-        faulty("fee 1+" + times("1", 300) + ";", 2, 6);
-        faulty("fee 10000 10000", 2, 4);
-        faultless(times("fee 1;", 12));
-        faulty(times("fee 1;", 13), 2, 72);
-        faulty(times("fee 1;", 12) + " differ", 2, 73);
-        faulty(times("fee 1;", 12) + "grade", 1, 72);
-        faulty(times("fee 1;", 12) + "1", 1, 72);
-        faultless("fee " + times("(", 5) + "1" + times(")", 5) + ";");
-        faulty("fee " + times("(", 6) + "1" + times(")", 6) + ";", 2, 10);
-        faulty("fee " + times("(", 7) + "1" + times(")", 7) + ";", 2, 10);
-        faulty("fee " + times("(", 6) + " not 1" + times(")", 6) + ";", 2, 11);
-        faulty("fee " + times("(", 6) + " grade" + times(")", 6) + ";", 2, 11);
-        faulty("fee " + times("(", 6) + "12345" + times(")", 6) + ";", 2, 10);
-        faulty("fee " + times("(", 6) + ");", 1, 10);
-        faulty("fee " + times("(", 6) + "bogus", 3, 10);
-        faulty("fee " + times("(", 6), 1, 10);
-        faulty("fee " + times("(", 390), 2, 10);
+        Written.faultless("fee 9999;");
+        Written.faultless("fee 0000;");
+        Written.faulty("fee 10000;", 2, 4);
+        Written.faulty("fee 00000;", 2, 4);
+        Written.faulty("fee 1+" + times("1", 300) + ";", 2, 6);
+        Written.faulty("fee 10000 10000", 2, 4);
+        Written.faultless(times("fee 1;", 12));
+        Written.faulty(times("fee 1;", 13), 2, 72);
+        Written.faulty(times("fee 1;", 12) + " differ", 2, 73);
+        Written.faulty(times("fee 1;", 12) + "grade", 1, 72);
+        Written.faulty(times("fee 1;", 12) + "1", 1, 72);
+        Written.faultless("fee " + times("(", 5) + "1" + times(")", 5) + ";");
+        Written.faulty("fee " + times("(", 6) + "1" + times(")", 6) + ";", 2, 10);
+        Written.faulty("fee " + times("(", 7) + "1" + times(")", 7) + ";", 2, 10);
+        Written.faulty("fee " + times("(", 6) + " not 1" + times(")", 6) + ";", 2, 11);
+        Written.faulty("fee " + times("(", 6) + " grade" + times(")", 6) + ";", 2, 11);
+        Written.faulty("fee " + times("(", 6) + "12345" + times(")", 6) + ";", 2, 10);
+        Written.faulty("fee " + times("(", 6) + ");", 1, 10);
+        Written.faulty("fee " + times("(", 6) + "bogus", 3, 10);
+        Written.faulty("fee " + times("(", 6), 1, 10);
+        Written.faulty("fee " + times("(", 390), 2, 10);
         String five = times("(", 5) + "1" + times(")", 5);
-        faultless("fee " + five + "+" + five + " and not " + five + "<" + five + ";");
+        Written.faultless("fee " + five + "+" + five + " and not " + five + "<" + five + ";");
     }
 
     private static void noName() {
-        faulty("refuse x;", 3, 7);
-        faulty("refuse 1+zaz;", 3, 9);
-        faulty("refuse grades;", 3, 7);
-        faulty("refuse grad;", 3, 7);
-        faulty("refuse (x;", 3, 8);
-        faulty("refuse 1+bogus;", 3, 9);
-        faulty("refuse 1 and and;", 3, 13);
-        faulty("refuse refuse;", 3, 7);
-        faulty("refuse not not 1;", 3, 11);
-        faulty("refuse 1+not 1;", 3, 9);
-        faulty("refuse 1<not 1;", 3, 9);
-        faulty("refuse 1 + x 12345", 3, 11);
-        faultless("refuse grade+steps+year+born+female+marks+rivals+quarters;");
+        Written.faulty("refuse x;", 3, 7);
+        Written.faulty("refuse 1+zaz;", 3, 9);
+        Written.faulty("refuse grades;", 3, 7);
+        Written.faulty("refuse grad;", 3, 7);
+        Written.faulty("refuse (x;", 3, 8);
+        Written.faulty("refuse 1+bogus;", 3, 9);
+        Written.faulty("refuse 1 and and;", 3, 13);
+        Written.faulty("refuse refuse;", 3, 7);
+        Written.faulty("refuse not not 1;", 3, 11);
+        Written.faulty("refuse 1+not 1;", 3, 9);
+        Written.faulty("refuse 1<not 1;", 3, 9);
+        Written.faulty("refuse 1 + x 12345", 3, 11);
+        Written.faultless("refuse grade+steps+year+born+female+marks+rivals+quarters;");
     }
 
     /** A word with one letter put otherwise, too few or too many is another word. */
@@ -190,16 +177,16 @@ public final class TextTest {
     }
 
     private static void unknown(String word) {
-        faulty(word + " 1;", 1, 0);
-        faulty("fee 1 " + word + " 1;", 1, 6);
-        faulty("fee " + word + ";", 3, 4);
+        Written.faulty(word + " 1;", 1, 0);
+        Written.faulty("fee 1 " + word + " 1;", 1, 6);
+        Written.faulty("fee " + word + ";", 3, 4);
     }
 
     private static void longText() {
-        faultless("fee 1" + times("+1", 197) + ";");
-        faultless("fee 1;" + times(" ", 394));
-        faulty("fee 1" + times("+1", 197) + "+", 1, 400);
-        faultless("fee 1" + times("or 1", 98) + ";");
+        Written.faultless("fee 1" + times("+1", 197) + ";");
+        Written.faultless("fee 1;" + times(" ", 394));
+        Written.faulty("fee 1" + times("+1", 197) + "+", 1, 400);
+        Written.faultless("fee 1" + times("or 1", 98) + ";");
     }
 
     /** 0 has the sons 1 and 2, 2 the younger; arms 7 from 1500 on. */
@@ -271,49 +258,43 @@ public final class TextTest {
         Due.noSuchElement("fee(-1, 1540)", () -> book.fee(-1, 1540));
     }
 
-    private static void worth(String expression, int value) {
-        ArmsBook book = sons();
-        Due.is(expression, Written.text(book, "fee " + expression + ";", 1500), 0);
-        Due.is(expression, book.fee(0, 1540), value);
-    }
-
     private static void expressions() {
-        worth("7", 7);
-        worth("10-3-4", 3);
-        worth("10-(3-4)", 11);
-        worth("2-3", -1);
-        worth("1<2", 1);
-        worth("2<2", 0);
-        worth("2=2", 1);
-        worth("1=2", 0);
-        worth("1+1=2", 1);
-        worth("2<1+2", 1);
-        worth("0-1<0", 1);
-        worth("5 and 3", 1);
-        worth("5 and 0", 0);
-        worth("0 and 5", 0);
-        worth("0-1 and 0-1", 1);
-        worth("5 or 0", 1);
-        worth("0 or 7", 1);
-        worth("0 or 0", 0);
-        worth("1 or 1 and 0", 0);
-        worth("0 and 0 or 1", 1);
-        worth("1 or (1 and 0)", 1);
-        worth("not 0", 1);
-        worth("not 5", 0);
-        worth("not 1<2", 0);
-        worth("not 2<1", 1);
-        worth("not 1=0", 1);
-        worth("not 1+1", 0);
-        worth("not 1-1", 1);
-        worth("not 1 or 1", 1);
-        worth("1 and not 0", 1);
-        worth("(not 0)+5", 6);
-        worth("(1<2)+(3<4)+(5=5)", 3);
-        worth("9999+9999", 19998);
-        worth("0012", 12);
-        worth(within(5), 0);
-        worth(within(4), 1);
+        Written.worth("7", 7);
+        Written.worth("10-3-4", 3);
+        Written.worth("10-(3-4)", 11);
+        Written.worth("2-3", -1);
+        Written.worth("1<2", 1);
+        Written.worth("2<2", 0);
+        Written.worth("2=2", 1);
+        Written.worth("1=2", 0);
+        Written.worth("1+1=2", 1);
+        Written.worth("2<1+2", 1);
+        Written.worth("0-1<0", 1);
+        Written.worth("5 and 3", 1);
+        Written.worth("5 and 0", 0);
+        Written.worth("0 and 5", 0);
+        Written.worth("0-1 and 0-1", 1);
+        Written.worth("5 or 0", 1);
+        Written.worth("0 or 7", 1);
+        Written.worth("0 or 0", 0);
+        Written.worth("1 or 1 and 0", 0);
+        Written.worth("0 and 0 or 1", 1);
+        Written.worth("1 or (1 and 0)", 1);
+        Written.worth("not 0", 1);
+        Written.worth("not 5", 0);
+        Written.worth("not 1<2", 0);
+        Written.worth("not 2<1", 1);
+        Written.worth("not 1=0", 1);
+        Written.worth("not 1+1", 0);
+        Written.worth("not 1-1", 1);
+        Written.worth("not 1 or 1", 1);
+        Written.worth("1 and not 0", 1);
+        Written.worth("(not 0)+5", 6);
+        Written.worth("(1<2)+(3<4)+(5=5)", 3);
+        Written.worth("9999+9999", 19998);
+        Written.worth("0012", 12);
+        Written.worth(within(5), 0);
+        Written.worth(within(4), 1);
     }
 
     /** Expressions one in another, each with all that can wait for what stands within it. */

@@ -1,4 +1,4 @@
-/** Puts texts on a book's tape. */
+/** Puts texts on a book's tape, and looks at how they are taken. */
 final class Written {
     private Written() {
     }
@@ -21,5 +21,32 @@ final class Written {
 
     static int text(ArmsBook book, String words, int year) {
         return book.text(feed(book, words), year);
+    }
+
+    static void faulty(String words, int fault, int place) {
+        ArmsBook book = new ArmsBook();
+        Due.is("'" + words + "'", text(book, words, 1500), -1 - fault);
+        Due.is("fault() of '" + words + "'", book.fault(), place);
+        Due.is("texts behind '" + words + "'", book.count(2), 0);
+    }
+
+    static void faultless(String words) {
+        ArmsBook book = new ArmsBook();
+        Due.is("'" + words + "'", text(book, words, 1500), 0);
+        Due.is("fault() of '" + words + "'", book.fault(), ArmsBook.NONE);
+        Due.is("texts behind '" + words + "'", book.count(2), 1);
+    }
+
+    /** The value of an expression in 1540, for a root without steps. */
+    static void worth(String expression, int value) {
+        worthIn(1540, expression, value);
+    }
+
+    static void worthIn(int year, String expression, int value) {
+        ArmsBook book = new ArmsBook();
+        book.person(false, 1500, 1560);
+        book.grant(0, 7, 1500);
+        Due.is("'" + expression + "'", text(book, "fee " + expression + ";", 1500), 0);
+        Due.is("'" + expression + "'", book.fee(0, year), value);
     }
 }
