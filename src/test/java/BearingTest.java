@@ -14,7 +14,7 @@ public final class BearingTest {
         heiress();
         quarterRow();
         deadMothersQuarters();
-        mothersRowIsCutFirst();
+        mothersRowOfTwelve();
         kinOfKin();
         rivals();
         Due.finish();
@@ -316,8 +316,8 @@ public final class BearingTest {
         Due.is("heiress though dead", early.quarter(3, 1561, -1), 1);
     }
 
-    /** A mother's row of twelve is cut at twelve even where her child has some of it already. */
-    private static void mothersRowIsCutFirst() {
+    /** A mother's row of twelve fills her child's, whether or not the child has some of it already. */
+    private static void mothersRowOfTwelve() {
         ArmsBook book = new ArmsBook();
         for (int i = 0; i < 14; i++) {
             book.person(i == 13, 1000 + 20 * i, 1020 + 20 * i);
