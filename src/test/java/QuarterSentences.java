@@ -181,6 +181,10 @@ final class QuarterSentences {
         Due.is("ahead of all grants", family.quarters(1, 999), "");
         Due.is("by the first grants", family.quarters(1, 1399), "1 2");
         Due.is("by the latest grants alone", family.quarters(1, 1400), "30 40");
+        Family middle = grantedChain(3);
+        middle.grant(1, 50, 1300);
+        Due.is("a father who is a root, too", middle.quarters(2, 1299), "1 2 3");
+        Due.is("a father's next grant", middle.quarters(2, 1300), "1 50 3");
         Family later = new Family();
         int father = later.male(1500, 1560);
         int son = later.son(father, 1530, 1590);
