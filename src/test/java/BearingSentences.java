@@ -441,6 +441,8 @@ final class BearingSentences {
         Due.is("when that line is dead the second son", family.book.head(root, 1549), second);
         Due.is("then his son", family.book.head(root, 1552), ofSecond);
         Due.is("NONE, though a daughter lives", family.book.head(root, 1553), NONE);
+        family.male(1500, 1600);
+        Due.is("NONE, though another house lives", family.book.head(root, 1553), NONE);
         Family longest = chain(60);
         Due.is("59 sons down", longest.book.head(0, 1016 + 16 * 59), 59);
         Due.is("all are dead", longest.book.head(0, 1017 + 16 * 59), NONE);
