@@ -715,10 +715,6 @@ public final class ArmsBook {
             return token >= FIRST_NUMBER;
         }
 
-        static boolean isOtherThanName(int token) {
-            return token >= OTHER_WORD && token <= NOT;
-        }
-
         void scan(byte[] bytes, int length) {
             size = 0;
             int end = Math.min(length, bytes.length);
@@ -934,8 +930,8 @@ public final class ArmsBook {
 
         /** Around: how many expressions this one stands within. */
         private void readExpression(int around) {
-            if (around > MOST_AROUND && canBeginExpression()) {
-                blame(TOO_MUCH);
+            if (around > MOST_AROUND) {
+                blame(canBeginExpression() ? TOO_MUCH : faultWithoutPart());
                 return;
             }
             readTest(around);
@@ -990,11 +986,18 @@ public final class ArmsBook {
                 } else {
                     blame(OUT_OF_PLACE);
                 }
-            } else if (token == Scanner.LONG_NUMBER) {
-                blame(TOO_MUCH);
             } else {
-                blame(Scanner.isOtherThanName(token) ? NO_NAME : OUT_OF_PLACE);
+                blame(faultWithoutPart());
             }
+        }
+
+        /** The fault of a token that begins no part, where one has to begin. */
+        private int faultWithoutPart() {
+            if (token == Scanner.LONG_NUMBER) {
+                return TOO_MUCH;
+            }
+            boolean isWord = token >= Scanner.OTHER_WORD && token <= Scanner.NOT;
+            return isWord ? NO_NAME : OUT_OF_PLACE;
         }
     }
 

@@ -308,6 +308,9 @@ final class OfficeSentences {
         Written.worth("(((((7)))))", 7);
         Written.worth("(1<2)+(1=1)+(not 0)+(1 or 0)", 4);
         Written.worth("(born)", 1500);
+        // As many numbers wait for their operators as ever can: three in each of six expressions, and the last.
+        Written.worth(times("1 and 2<3+(", 5) + "1 and 2<3+4" + times(")", 5), 1);
+        Written.worth(times("not 0 and 2=3-(", 5) + "0 or 5=9-4" + times(")", 5), 1);
         Written.faulty("fee ();", 1, 5);
         Written.faulty("fee (1;", 1, 6);
         Written.faulty("fee 1);", 1, 5);
@@ -341,6 +344,7 @@ final class OfficeSentences {
                 Written.faulty("fee " + like + ";", 3, 4);
             }
         }
+        namesOfTheVeryYear();
         Family deep = sons();
         int third = deep.son(0, 1513, 1600);
         deep.son(third, 1540, 1600);
@@ -349,6 +353,38 @@ final class OfficeSentences {
         deep.text("fee marks;", 1500);
         Due.is("marks 3", deep.book.fee(third, 1560), 1);
         Due.is("marks 3 2 1", deep.book.fee(only, 1560), 2);
+    }
+
+    /** What one name is worth of one in the year ahead of a change, and in the year of it. */
+    private static void changes(String name, int person, int year, int ahead, int then) {
+        Family family = kin();
+        family.text("fee " + name + "; refuse not " + name + "=" + then + ";", 1500);
+        Due.is(name + " in the year ahead of " + year, family.book.fee(person, year - 1), ahead);
+        Due.is(name + " in " + year, family.book.fee(person, year), then);
+        int arms = family.book.bears(person, year, 0);
+        Due.is("a claim by its " + name + " in " + year, family.book.claim(person, arms, year), 0);
+        int armsAhead = family.book.bears(person, year - 1, 0);
+        Due.is("a claim by its " + name + " in the year ahead", family.book.claim(person, armsAhead, year - 1), 3);
+    }
+
+    private static void namesOfTheVeryYear() {
+        changes("grade", 3, 1580, 4, 9);
+        changes("steps", 3, 1580, 2, 0);
+        changes("year", 3, 1580, 1579, 1580);
+        changes("marks", 3, 1580, 1, 0);
+        changes("rivals", 0, 1505, 0, 1);
+        changes("rivals", 3, 1580, 1, 0);
+        changes("quarters", 3, 1580, 1, 2);
+        // From the year of her father's death on the mother is an heiress; she brings other arms then.
+        Family family = sons();
+        int grandfather = family.male(1500, 1560);
+        family.grant(grandfather, 8, 1505);
+        int mother = family.daughter(grandfather, 1525, 1600);
+        int grandson = family.son(1, 1550, 1620);
+        family.mother(grandson, mother);
+        family.text("fee quarters;", 1500);
+        Due.is("quarters in the year ahead of 1560", family.book.fee(grandson, 1559), 1);
+        Due.is("quarters in 1560", family.book.fee(grandson, 1560), 2);
     }
 
     private static void ints() {
